@@ -573,6 +573,9 @@ public final class WhoIsThere {
     }
 
     private void writeAsks(Host writer) {
+        if (writer.asks.isEmpty()) {
+            return;
+        }
         for (int kind = 0; kind < KINDS; kind++) {
             if (writer.asks.isDue(kind, now)) {
                 writer.letter.addAsk(kind, writer.asks.marks[kind], knownTo(writer, kind), 0);
@@ -604,20 +607,28 @@ public final class WhoIsThere {
     private void writeTellings(Host writer) {
         for (int s = 0; s < serviceCount; s++) {
             Service told = services[s];
-            boolean answerDue = writer.answers.isDue(s, now);
-            if (speaksFor(writer, told)) {
-                if (told.state == HELD && (answerDue || told.renewal <= now)) {
-                    writer.letter.addTelling(s, told.name, told.marks, told.life, 0);
-                    told.renewal = now + told.life / 2;
-                }
-            } else if (answerDue && writer.isKeeper && writer.store.has(s)) {
-                int life = writer.store.left(s, now) - 1;
-                if (life > 0) {
-                    writer.letter.addTelling(s, writer.store.name[s], writer.store.marks[s], life, 0);
-                }
-            }
-            if (answerDue) {
+            boolean renewalDue = told.state == HELD && told.renewal <= now;
+            if (writer.answers.isDue(s, now)) {
+                writeTelling(writer, told, writer.isKeeper);
+                // Gone even if there was nothing to tell of.
                 writer.answers.remove(s);
+            } else if (renewalDue) {
+                writeTelling(writer, told, false);
+            }
+        }
+    }
+
+    private void writeTelling(Host writer, Service told, boolean fromRecordToo) {
+        int s = told.number;
+        if (speaksFor(writer, told)) {
+            if (told.state == HELD) {
+                writer.letter.addTelling(s, told.name, told.marks, told.life, 0);
+                told.renewal = now + told.life / 2;
+            }
+        } else if (fromRecordToo && writer.store.has(s)) {
+            int life = writer.store.left(s, now) - 1;
+            if (life > 0) {
+                writer.letter.addTelling(s, writer.store.name[s], writer.store.marks[s], life, 0);
             }
         }
     }
@@ -685,13 +696,14 @@ public final class WhoIsThere {
         Letter waiting = atHome ? bridge.waitingForSecond : bridge.waitingForHome;
         int otherNet = atHome ? bridge.net : host.net;
         int before = waiting.size();
-        for (int kind = 0; kind < KINDS; kind++) {
+        int named = heard.claims | heard.byes | heard.tellings;
+        for (int kind = 0; kind < KINDS && heard.asks != 0; kind++) {
             if (bridge.carries(kind)) {
                 waiting.takeAsk(heard, kind, otherNet);
             }
         }
         for (int s = 0; s < serviceCount; s++) {
-            if (bridge.carries(services[s].kind)) {
+            if (isIn(named, s) && bridge.carries(services[s].kind)) {
                 waiting.takeClaim(heard, s, otherNet);
                 waiting.takeBye(heard, s, otherNet);
                 waiting.takeTelling(heard, s, otherNet);
@@ -805,7 +817,7 @@ public final class WhoIsThere {
     /** The other service of which the store has a record by that name; no store has two of one name. */
     private Service otherRecorded(Store store, Service told, int name) {
         for (int s = 0; s < serviceCount; s++) {
-            if (s != told.number && store.has(s) && store.name[s] == name) {
+            if (store.name[s] == name && s != told.number && store.has(s)) {
                 return services[s];
             }
         }
@@ -1004,7 +1016,7 @@ public final class WhoIsThere {
         }
 
         boolean isFresh(int service, int tick) {
-            return has(service) && 2 * left(service, tick) > life[service];
+            return isIn(held, service) && 2 * (end[service] - tick) > life[service];
         }
 
         void put(int service, int itsName, int itsMarks, int itsLife, int itsEnd) {
@@ -1028,7 +1040,7 @@ public final class WhoIsThere {
                 return;
             }
             for (int service = 0; service < MOST_SERVICES; service++) {
-                if (has(service) && end[service] <= tick) {
+                if (end[service] <= tick && has(service)) {
                     remove(service);
                 }
             }

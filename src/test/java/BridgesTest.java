@@ -64,6 +64,15 @@ final class BridgesTest {
         CHECK.due("d: each took it up once", x.count(10), 2);
         CHECK.due("d: three letters", x.count(3), 3);
         CHECK.due("d: heard", x.record(3, 0, 3), 19);
+        x = homes(0, 0, 0, 1);
+        x.bridge(1, 1, ALL);
+        x.bridge(2, 1, ALL);
+        x.offer(0, KIND, 1, 0, 100);
+        x.ask(0, KIND, 0);
+        x.tick(4);
+        x.drop(0);
+        x.tick(4);
+        CHECK.due("d: an ask, three claims, a telling, a bye, by each", x.count(10), 12);
     }
 
     private static void asksAndAnswersCross() {

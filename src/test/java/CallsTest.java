@@ -21,6 +21,7 @@ final class CallsTest {
         promise12Keeper();
         promise13Bridge();
         promise13WhatForbidsIt();
+        promise13AnswersAreGone();
         promise14Lose();
         promise15Deaf();
         promise16Join();
@@ -73,6 +74,9 @@ final class CallsTest {
         CHECK.due("2: a 13th", x.host(0, 1, 2, 0), -1);
         x.fall(3);
         CHECK.due("2: a 13th, one being gone", x.host(0, 1, 2, 0), -1);
+        CHECK.due("21: the last one", x.look(11, 0), 2);
+        CHECK.due("21: beyond it", x.look(12, 0), -1);
+        CHECK.due("9: beyond it", x.wake(12), false);
         CHECK.due("2: count", x.count(1), 12);
     }
 
@@ -120,6 +124,12 @@ final class CallsTest {
         CHECK.due("3: a 33rd", x.offer(0, 0, 1, 0, 4), -1);
         CHECK.due("4: a 33rd", x.lie(0, 0, 1, 0, 4), -1);
         CHECK.due("3: count", x.count(2), 32);
+        CHECK.due("20: the last one", x.service(31, 1), 1);
+        CHECK.due("20: beyond it", x.service(32, 1), -1);
+        CHECK.due("19: beyond it", x.record(0, 32, 0), -1);
+        CHECK.due("22: beyond it", x.reach(0, 32), -1);
+        CHECK.due("5: beyond it", x.drop(32), false);
+        CHECK.due("6: beyond it", x.change(32, 0), false);
     }
 
     /** What a host refuses that is asleep, leaves, or is gone. */
@@ -198,6 +208,10 @@ final class CallsTest {
         CHECK.due("5: asleep", x.drop(2), false);
         x.wake(1);
         CHECK.due("5: awake again", x.drop(2), true);
+        x.tick(1);
+        CHECK.due("5: the byes are written", x.count(9), 2);
+        x.tick(1);
+        CHECK.due("5: once", x.count(9), 0);
     }
 
     private static void promise6Change() {
@@ -352,6 +366,19 @@ final class CallsTest {
         CHECK.due("10: still believed", x.record(1, 0, 2), 19);
         CHECK.due("10: those of others stay", x.service(2, 0), 2);
         fallsAsleepOrLeaving();
+        answersFallToo();
+    }
+
+    private static void answersFallToo() {
+        WhoIsThere x = new WhoIsThere();
+        x.host(0, 1, 9, 5);
+        x.deaf(x.host(0, 1, 9, 5), 1);
+        x.lie(0, 3, 1, 0, 40);
+        x.ask(1, 3, 0);
+        x.tick(2);
+        CHECK.due("10: an answer waits", x.look(0, 8), 1);
+        x.fall(0);
+        CHECK.due("10: and is gone", x.look(0, 8), 0);
     }
 
     private static void fallsAsleepOrLeaving() {
@@ -501,6 +528,22 @@ final class CallsTest {
         CHECK.due("13: no kinds", x.bridge(4, 1, 0), true);
         x.fall(5);
         CHECK.due("13: gone", x.bridge(5, 1, 1), false);
+    }
+
+    private static void promise13AnswersAreGone() {
+        WhoIsThere x = new WhoIsThere();
+        x.host(0, 1, 9, 5);
+        x.host(0, 1, 9, 5);
+        x.deaf(x.host(0, 1, 9, 5), 1);
+        x.lie(0, 3, 1, 0, 40);
+        x.tick(1);
+        x.keeper(1, true);
+        x.ask(2, 3, 0);
+        x.tick(2);
+        CHECK.due("13: a keeper's answer waits", x.look(1, 8), 1);
+        x.keeper(1, false);
+        CHECK.due("13: no keeper any more", x.bridge(1, 1, 1), true);
+        CHECK.due("13: no answer", x.look(1, 8), 0);
     }
 
     private static void promise14Lose() {
