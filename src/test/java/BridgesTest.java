@@ -2,7 +2,7 @@
 final class BridgesTest {
     private static final Check CHECK = new Check();
     private static final int KIND = 3;
-    private static final int ALL = 65535;
+    private static final int ALL = Houses.ALL_KINDS;
 
     public static void main(String[] args) {
         tellingsLoseALifeAtEachBridge();
@@ -23,17 +23,8 @@ final class BridgesTest {
         CHECK.end("BridgesTest");
     }
 
-    /** Hosts at home on the nets given; their names are apart. */
-    private static WhoIsThere homes(int... nets) {
-        WhoIsThere x = new WhoIsThere();
-        for (int h = 0; h < nets.length; h++) {
-            x.host(nets[h], 10 * h + 1, 10 * h + 10, 5);
-        }
-        return x;
-    }
-
     private static void tellingsLoseALifeAtEachBridge() {
-        WhoIsThere x = homes(0, 0, 1, 2, 1);
+        WhoIsThere x = Houses.ofNets(0, 0, 1, 2, 1);
         x.bridge(1, 1, ALL);
         x.bridge(2, 2, ALL);
         x.lie(0, KIND, 1, 6, 20);
@@ -56,7 +47,7 @@ final class BridgesTest {
     }
 
     private static void nothingGoesBack() {
-        WhoIsThere x = homes(0, 0, 0, 1);
+        WhoIsThere x = Houses.ofNets(0, 0, 0, 1);
         x.bridge(1, 1, ALL);
         x.bridge(2, 1, ALL);
         x.lie(0, KIND, 1, 0, 20);
@@ -64,7 +55,7 @@ final class BridgesTest {
         CHECK.due("d: each took it up once", x.count(10), 2);
         CHECK.due("d: three letters", x.count(3), 3);
         CHECK.due("d: heard", x.record(3, 0, 3), 19);
-        x = homes(0, 0, 0, 1);
+        x = Houses.ofNets(0, 0, 0, 1);
         x.bridge(1, 1, ALL);
         x.bridge(2, 1, ALL);
         x.offer(0, KIND, 1, 0, 100);
@@ -76,7 +67,7 @@ final class BridgesTest {
     }
 
     private static void asksAndAnswersCross() {
-        WhoIsThere x = homes(0, 0, 0, 1);
+        WhoIsThere x = Houses.ofNets(0, 0, 0, 1);
         x.bridge(2, 1, ALL);
         x.lie(0, KIND, 1, 4, 100);
         x.tick(1);
@@ -96,7 +87,7 @@ final class BridgesTest {
     }
 
     private static void whatIsKnownCrosses() {
-        WhoIsThere x = homes(0, 0, 0, 1);
+        WhoIsThere x = Houses.ofNets(0, 0, 0, 1);
         x.bridge(2, 1, ALL);
         x.lie(0, KIND, 1, 4, 100);
         x.tick(2);
@@ -108,7 +99,7 @@ final class BridgesTest {
     }
 
     private static void theFirstAskOfAKindAlone() {
-        WhoIsThere x = homes(0, 0, 0, 1, 2, 2, 2, 1);
+        WhoIsThere x = Houses.ofNets(0, 0, 0, 1, 2, 2, 2, 1);
         x.bridge(2, 1, ALL);
         x.lie(0, KIND, 1, 1, 100);
         x.lie(0, KIND, 2, 2, 100);
@@ -147,7 +138,7 @@ final class BridgesTest {
     }
 
     private static void byesCross() {
-        WhoIsThere x = homes(0, 0, 1);
+        WhoIsThere x = Houses.ofNets(0, 0, 1);
         x.bridge(1, 1, ALL);
         x.lie(0, KIND, 1, 0, 50);
         x.tick(2);
@@ -160,7 +151,7 @@ final class BridgesTest {
     }
 
     private static void otherKindsStay() {
-        WhoIsThere x = homes(0, 0, 1, 1);
+        WhoIsThere x = Houses.ofNets(0, 0, 1, 1);
         x.bridge(1, 1, ALL & ~(1 << KIND));
         x.lie(0, KIND, 1, 0, 50);
         x.offer(0, KIND, 2, 0, 50);
@@ -176,7 +167,7 @@ final class BridgesTest {
     }
 
     private static void theLastTellingIsCarried() {
-        WhoIsThere x = homes(0, 0, 0, 0, 1);
+        WhoIsThere x = Houses.ofNets(0, 0, 0, 0, 1);
         x.bridge(2, 1, ALL);
         x.deaf(3, 1);
         x.lie(0, KIND, 1, 1, 20);
@@ -195,7 +186,7 @@ final class BridgesTest {
     }
 
     private static void aLifeOfOneStays() {
-        WhoIsThere x = homes(0, 0, 0, 0, 1);
+        WhoIsThere x = Houses.ofNets(0, 0, 0, 0, 1);
         x.bridge(2, 1, ALL);
         x.deaf(3, 1);
         x.lie(0, KIND, 1, 1, 7);
@@ -211,7 +202,7 @@ final class BridgesTest {
     }
 
     private static void liesAreCarried() {
-        WhoIsThere x = homes(0, 0, 1);
+        WhoIsThere x = Houses.ofNets(0, 0, 1);
         x.bridge(1, 1, ALL);
         x.lie(0, KIND, 99, 0, 20);
         x.tick(1);
@@ -222,7 +213,7 @@ final class BridgesTest {
     }
 
     private static void joinedNetsNeedNoBridge() {
-        WhoIsThere x = homes(0, 0, 1);
+        WhoIsThere x = Houses.ofNets(0, 0, 1);
         x.bridge(1, 1, ALL);
         x.lie(0, KIND, 1, 0, 20);
         x.tick(1);
@@ -238,7 +229,7 @@ final class BridgesTest {
     }
 
     private static void netsBorneStay() {
-        WhoIsThere x = homes(0, 0, 1, 2);
+        WhoIsThere x = Houses.ofNets(0, 0, 1, 2);
         x.bridge(1, 1, ALL);
         x.bridge(2, 2, ALL);
         x.bridge(3, 0, ALL);
@@ -247,7 +238,7 @@ final class BridgesTest {
         CHECK.due("d: both ways round", x.count(10), 4);
         x.tick(2);
         CHECK.due("d: and no further", x.count(10), 4);
-        x = homes(0, 0, 1, 2);
+        x = Houses.ofNets(0, 0, 1, 2);
         x.bridge(1, 1, ALL);
         x.bridge(2, 2, ALL);
         x.bridge(3, 0, ALL);
@@ -259,7 +250,7 @@ final class BridgesTest {
     }
 
     private static void bridgesThatGo() {
-        WhoIsThere x = homes(0, 0, 1, 0);
+        WhoIsThere x = Houses.ofNets(0, 0, 1, 0);
         x.bridge(1, 1, ALL);
         x.bridge(3, 1, ALL);
         x.lie(0, KIND, 1, 0, 50);
@@ -276,7 +267,7 @@ final class BridgesTest {
     }
 
     private static void homeLettersComeFirst() {
-        WhoIsThere x = homes(0, 1, 0);
+        WhoIsThere x = Houses.ofNets(0, 1, 0);
         x.bridge(2, 1, ALL);
         x.lie(0, KIND, 1, 0, 50);
         x.lie(1, KIND, 11, 0, 50);

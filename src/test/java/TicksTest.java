@@ -1,8 +1,9 @@
 /**
  * Promise 17 and the terms that it leans on: what waits (2.) and what a tick does (3., a. to e.).
  *
- * <p>A host's lot makes its asks and answers due at ticks that are its number modulo 4: host 2 asks at
- * ticks 2, 6, 10, and so on. The ticks that the tests name are counted out that way.
+ * <p>A host's lot makes its asks due at ticks that are its number modulo 4, and its answers to asks one
+ * later: host 2 asks at ticks 2, 6, 10 and answers at 3, 7, 11. The ticks that the tests name are counted
+ * out that way.
  */
 final class TicksTest {
     private static final Check CHECK = new Check();
@@ -37,16 +38,8 @@ final class TicksTest {
         CHECK.end("TicksTest");
     }
 
-    private static WhoIsThere hosts(int... ranks) {
-        WhoIsThere x = new WhoIsThere();
-        for (int rank : ranks) {
-            x.host(0, 1, 9, rank);
-        }
-        return x;
-    }
-
     private static void namesAreHeldAfterThreeClaims() {
-        WhoIsThere x = hosts(5, 5);
+        WhoIsThere x = Houses.ofRanks(5, 5);
         x.offer(0, 3, 1, 0, 5);
         for (int claims = 2; claims >= 0; claims--) {
             x.tick(1);
@@ -62,7 +55,7 @@ final class TicksTest {
     }
 
     private static void sleepersHoldNoNames() {
-        WhoIsThere x = hosts(5, 5);
+        WhoIsThere x = Houses.ofRanks(5, 5);
         x.offer(0, 3, 1, 0, 20);
         x.tick(3);
         x.sleep(0, 1);
@@ -74,7 +67,7 @@ final class TicksTest {
     }
 
     private static void renewalsComeAtHalfTheLife() {
-        WhoIsThere x = hosts(5, 5);
+        WhoIsThere x = Houses.ofRanks(5, 5);
         x.lie(0, 3, 1, 0, 7);
         x.tick(1);
         CHECK.due("b: renewal", x.service(0, 5), 3);
@@ -87,7 +80,7 @@ final class TicksTest {
     }
 
     private static void recordsEnd() {
-        WhoIsThere x = hosts(5, 5);
+        WhoIsThere x = Houses.ofRanks(5, 5);
         x.lie(0, 3, 1, 0, 4);
         x.tick(1);
         x.lose(0, 100);
@@ -100,7 +93,7 @@ final class TicksTest {
     }
 
     private static WhoIsThere toldOnceAtTick3() {
-        WhoIsThere x = hosts(5, 5, 5);
+        WhoIsThere x = Houses.ofRanks(5, 5, 5);
         x.offer(0, 3, 1, 5, 20);
         x.tick(13);
         x.lose(0, 1);
@@ -136,7 +129,7 @@ final class TicksTest {
 
     /** The owner, host 3, has an answer due at 16; at 14 a keeper tells a life of eleven less. */
     private static int answersAfterKeeperTold(int life) {
-        WhoIsThere x = hosts(5, 5, 5, 5);
+        WhoIsThere x = Houses.ofRanks(5, 5, 5, 5);
         x.deaf(0, 100);
         x.offer(3, 3, 1, 0, life);
         x.tick(10);
@@ -156,19 +149,19 @@ final class TicksTest {
     }
 
     private static void asksFallSilent() {
-        WhoIsThere x = hosts(5, 5, 5);
+        WhoIsThere x = Houses.ofRanks(5, 5, 5);
         x.ask(1, 3, 4);
         x.ask(2, 3, 4);
         x.tick(2);
         CHECK.due("d: the same is asked", x.look(2, 7), 0);
         CHECK.due("d: asked once", x.count(3), 1);
-        x = hosts(5, 5, 5);
+        x = Houses.ofRanks(5, 5, 5);
         x.ask(1, 3, 4);
         x.ask(2, 3, 5);
         x.ask(2, 4, 4);
         x.tick(2);
         CHECK.due("d: other marks, another kind", x.look(2, 7), 2);
-        x = hosts(5, 5, 5);
+        x = Houses.ofRanks(5, 5, 5);
         x.deaf(2, 1);
         x.lie(0, 3, 1, 0, 40);
         x.tick(1);
@@ -176,7 +169,7 @@ final class TicksTest {
         x.ask(2, 3, 4);
         x.tick(1);
         CHECK.due("d: known there, not here", x.look(2, 7), 1);
-        x = hosts(5, 5, 5);
+        x = Houses.ofRanks(5, 5, 5);
         x.deaf(1, 1);
         x.lie(0, 3, 1, 0, 40);
         x.tick(1);
@@ -187,7 +180,7 @@ final class TicksTest {
     }
 
     private static void marksAreAskedFor() {
-        WhoIsThere x = hosts(5, 5);
+        WhoIsThere x = Houses.ofRanks(5, 5);
         x.deaf(1, 4);
         x.lie(0, 3, 1, 6, 40);
         x.lie(0, 3, 2, 2, 40);
@@ -202,7 +195,7 @@ final class TicksTest {
     }
 
     private static void strongerClaimWins() {
-        WhoIsThere x = hosts(5, 6);
+        WhoIsThere x = Houses.ofRanks(5, 6);
         x.offer(0, 3, 4, 0, 20);
         x.offer(1, 3, 4, 0, 20);
         x.tick(1);
@@ -216,7 +209,7 @@ final class TicksTest {
     }
 
     private static void heldNamesAreDefended() {
-        WhoIsThere x = hosts(5);
+        WhoIsThere x = Houses.ofRanks(5);
         x.lie(0, 3, 9, 0, 40);
         x.offer(0, 3, 1, 0, 40);
         x.tick(4);
@@ -306,7 +299,7 @@ final class TicksTest {
     }
 
     private static void falseOnesNeverYield() {
-        WhoIsThere x = hosts(5, 900);
+        WhoIsThere x = Houses.ofRanks(5, 900);
         x.lie(0, 3, 1, 0, 40);
         x.offer(1, 3, 1, 0, 40);
         x.tick(1);
@@ -322,7 +315,7 @@ final class TicksTest {
     }
 
     private static WhoIsThere sleeperWithProxy() {
-        WhoIsThere x = hosts(5, 5, 5);
+        WhoIsThere x = Houses.ofRanks(5, 5, 5);
         x.offer(2, 3, 1, 7, 20);
         x.tick(4);
         x.sleep(2, 1);
@@ -367,7 +360,7 @@ final class TicksTest {
     }
 
     private static void whatWaitsOfSleepers() {
-        WhoIsThere x = hosts(5, 5, 5);
+        WhoIsThere x = Houses.ofRanks(5, 5, 5);
         x.lie(0, 3, 1, 0, 20);
         x.deaf(2, 1);
         x.ask(2, 3, 0);
@@ -389,7 +382,7 @@ final class TicksTest {
     }
 
     private static void liesAreNoMore() {
-        WhoIsThere x = hosts(5, 5, 5);
+        WhoIsThere x = Houses.ofRanks(5, 5, 5);
         x.host(0, 20, 29, 900);
         x.offer(0, 3, 1, 0, 20);
         x.lie(3, 3, 1, 0, 20);
@@ -405,7 +398,7 @@ final class TicksTest {
     }
 
     private static void strongerRecordsStay() {
-        WhoIsThere x = hosts(5, 9, 7);
+        WhoIsThere x = Houses.ofRanks(5, 9, 7);
         x.deaf(0, 100);
         x.deaf(1, 100);
         x.offer(0, 3, 1, 0, 10);
@@ -442,7 +435,7 @@ final class TicksTest {
     }
 
     private static void deafToWhatTheyWouldHear() {
-        WhoIsThere x = hosts(5, 5);
+        WhoIsThere x = Houses.ofRanks(5, 5);
         x.host(1, 1, 9, 5);
         x.host(0, 1, 9, 5);
         x.deaf(1, 1);
@@ -464,7 +457,7 @@ final class TicksTest {
     }
 
     private static void keepersAnswerAlone() {
-        WhoIsThere x = hosts(5, 5, 5, 5, 5);
+        WhoIsThere x = Houses.ofRanks(5, 5, 5, 5, 5);
         x.deaf(4, 1);
         x.lie(0, 3, 1, 2, 40);
         x.tick(1);
@@ -500,7 +493,7 @@ final class TicksTest {
 
     /** Told at tick 0; the keeper, host 1, hears an ask at tick 3 and may tell at tick 6. */
     private static int lifeToldByKeeper(int life) {
-        WhoIsThere x = hosts(5, 5, 5, 5);
+        WhoIsThere x = Houses.ofRanks(5, 5, 5, 5);
         x.deaf(3, 1);
         x.lie(0, 3, 1, 0, life);
         x.tick(1);
@@ -516,7 +509,7 @@ final class TicksTest {
     }
 
     private static void keepersNoMoreTellNothing() {
-        WhoIsThere x = hosts(5, 5, 5, 5);
+        WhoIsThere x = Houses.ofRanks(5, 5, 5, 5);
         x.deaf(3, 1);
         x.lie(0, 3, 1, 0, 100);
         x.tick(1);
