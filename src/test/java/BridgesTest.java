@@ -13,13 +13,9 @@ final class BridgesTest {
         claimsCross();
         byesCross();
         otherKindsStay();
-        theLastTellingIsCarried();
-        aLifeOfOneStays();
         liesAreCarried();
         joinedNetsNeedNoBridge();
         netsBorneStay();
-        bridgesThatGo();
-        homeLettersComeFirst();
         CHECK.end("BridgesTest");
     }
 
@@ -166,41 +162,6 @@ final class BridgesTest {
         CHECK.due("d: no answers", x.look(0, 8), 0);
     }
 
-    private static void theLastTellingIsCarried() {
-        WhoIsThere x = Houses.ofNets(0, 0, 0, 0, 1);
-        x.bridge(2, 1, ALL);
-        x.deaf(3, 1);
-        x.lie(0, KIND, 1, 1, 20);
-        x.tick(1);
-        x.keeper(1, true);
-        x.ask(3, KIND, 0);
-        x.tick(5);
-        int before = x.count(10);
-        x.change(0, 2);
-        x.tick(1);
-        CHECK.due("b: owner and keeper told", x.count(9), 2);
-        CHECK.due("24: once a tick and way", x.count(10) - before, 1);
-        x.tick(1);
-        CHECK.due("d: the keeper's life, one less", x.record(4, 0, 3), 13);
-        CHECK.due("d: and marks", x.record(4, 0, 1), 1);
-    }
-
-    private static void aLifeOfOneStays() {
-        WhoIsThere x = Houses.ofNets(0, 0, 0, 0, 1);
-        x.bridge(2, 1, ALL);
-        x.deaf(3, 1);
-        x.lie(0, KIND, 1, 1, 7);
-        x.tick(1);
-        x.lose(0, 100);
-        x.keeper(1, true);
-        x.ask(3, KIND, 0);
-        x.tick(5);
-        int before = x.count(10);
-        x.tick(1);
-        CHECK.due("b: a life of one is told", x.record(3, 0, 3), 1);
-        CHECK.due("d: and not taken up", x.count(10), before);
-    }
-
     private static void liesAreCarried() {
         WhoIsThere x = Houses.ofNets(0, 0, 1);
         x.bridge(1, 1, ALL);
@@ -247,37 +208,5 @@ final class BridgesTest {
         x.join(3, 0);
         x.tick(1);
         CHECK.due("16: net 3 is borne by none of them", x.count(10), 8);
-    }
-
-    private static void bridgesThatGo() {
-        WhoIsThere x = Houses.ofNets(0, 0, 1, 0);
-        x.bridge(1, 1, ALL);
-        x.bridge(3, 1, ALL);
-        x.lie(0, KIND, 1, 0, 50);
-        x.tick(1);
-        x.leave(1);
-        x.fall(3);
-        x.tick(1);
-        CHECK.due("b: no byes of its own, no letter", x.count(9), 0);
-        CHECK.due("b: gone", x.look(1, 0), 0);
-        x.change(0, 1);
-        x.tick(2);
-        CHECK.due("d: gone ones take up nothing", x.count(10), 2);
-        CHECK.due("d: nothing crossed", x.look(2, 5), 0);
-    }
-
-    private static void homeLettersComeFirst() {
-        WhoIsThere x = Houses.ofNets(0, 1, 0);
-        x.bridge(2, 1, ALL);
-        x.lie(0, KIND, 1, 0, 50);
-        x.lie(1, KIND, 11, 0, 50);
-        x.tick(1);
-        CHECK.due("24: each way", x.count(10), 2);
-        x.lose(2, 1);
-        x.tick(1);
-        CHECK.due("b: two letters", x.look(2, 4), 2);
-        CHECK.due("c: that to its home is lost", x.look(0, 5), 0);
-        CHECK.due("c: the other one is heard", x.record(1, 0, 0), 1);
-        CHECK.due("c: one lost", x.count(4), 1);
     }
 }

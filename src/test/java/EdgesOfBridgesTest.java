@@ -477,27 +477,24 @@ final class EdgesOfBridgesTest {
         CHECK.due("told in the next tick", x.count(10), 4);
     }
 
-    // d. "a KEEPER .. at home on the NET": that of the bridge's letter
-    private static void noKeepersOfTheOtherNet() {
+    /** Host 1 on net 0 asks for what host 3 has on net 1, where the ask is heard at tick 2. */
+    private static WhoIsThere askAcross(int keeper) {
         WhoIsThere x = Houses.ofNets(0, 0, 0, 1, 1);
         x.bridge(2, 1, ALL);
         x.lie(3, KIND, 31, 0, 200);
         x.tick(1);
         x.lose(2, 1);
-        x.keeper(0, true);
+        x.keeper(keeper, true);
         x.ask(1, KIND, 0);
         x.tick(2);
-        CHECK.due("a keeper on net 0 hinders nobody on net 1", x.look(3, 8), 1);
-        x = Houses.ofNets(0, 0, 0, 1, 1);
-        x.bridge(2, 1, ALL);
-        x.lie(3, KIND, 31, 0, 200);
-        x.tick(1);
-        x.lose(2, 1);
-        x.keeper(4, true);
-        x.ask(1, KIND, 0);
-        x.tick(2);
-        CHECK.due("one on net 1 does", x.look(3, 8), 0);
-        CHECK.due("and answers", x.look(4, 8), 1);
+        return x;
+    }
+
+    // d. "a KEEPER .. at home on the NET": that of the bridge's letter
+    private static void noKeepersOfTheOtherNet() {
+        CHECK.due("a keeper on net 0 hinders nobody on net 1", askAcross(0).look(3, 8), 1);
+        CHECK.due("one on net 1 does", askAcross(4).look(3, 8), 0);
+        CHECK.due("and answers", askAcross(4).look(4, 8), 1);
     }
 
     // b. "A HOST that LEAVES writes BYES alone, and is gone then": a bridge has none of its own.

@@ -15,6 +15,7 @@ final class EdgesOfHelpersTest {
         servicesOfOneThatLeaves();
         sleepersAreSpokenForIfHeld();
         spokenForByTheirProxyAlone();
+        proxiesOfOnesAwakeSpeakForNone();
         aProxyAsleepSpeaksForNone();
         manySleepersOfOneProxy();
         aKeeperMayBeAProxy();
@@ -28,6 +29,8 @@ final class EdgesOfHelpersTest {
         anAskThatWaits();
         reachedBySleepAndProxy();
         reachedByThatName();
+        notHeldByThatName();
+        reachedByOneThatLeaves();
         noSuchRecord();
         noKeeper();
         theLeastKeeperAlone();
@@ -42,6 +45,7 @@ final class EdgesOfHelpersTest {
         heldOnesAlone();
         leftLessOne();
         keepersRenewNothing();
+        keepersWithoutARecordAnyMore();
         pairsOfOneName();
         CHECK.end("EdgesOfHelpersTest");
     }
@@ -115,6 +119,9 @@ final class EdgesOfHelpersTest {
         x.tick(1);
         CHECK.due("it wrote nothing", x.look(0, 4), 1);
         CHECK.due("it is believed still", x.record(1, 0, 2) + x.record(1, 1, 2), 398);
+        x = withServices();
+        x.fall(1);
+        statesAndByes("the other one fallen", x, new int[] {0, 2, 1, 0, 0}, new int[] {1, 0, 0, 0, 0});
     }
 
     // 11: "its SERVICES are gone, with BYES if they were HELD"
@@ -166,6 +173,22 @@ final class EdgesOfHelpersTest {
         CHECK.due("the others do not", x.look(2, 4), 0);
         CHECK.due("nor does the sleeper", x.look(0, 4), 4);
         CHECK.due("its life", x.record(3, 0, 3), 200);
+    }
+
+    // WHO: "of HOSTS asleep": once they are awake, they speak for their own.
+    private static void proxiesOfOnesAwakeSpeakForNone() {
+        WhoIsThere x = Houses.ofRanks(5, 5, 5, 1);
+        x.offer(0, KIND, 4, 0, 200);
+        x.tick(4);
+        x.sleep(0, 1);
+        x.wake(0);
+        x.change(0, 1);
+        x.offer(3, KIND, 4, 0, 200);
+        x.tick(1);
+        CHECK.due("the owner renews, the claimer claims", x.count(9), 2);
+        CHECK.due("the owner answers the claim", x.look(0, 8), 1);
+        CHECK.due("the proxy no more", x.look(1, 8), 0);
+        CHECK.due("and wrote nothing", x.look(1, 4), 0);
     }
 
     // WHO: "HOSTS asleep whose PROXY it is": the proxy of a proxy speaks for the proxy alone.
@@ -258,6 +281,10 @@ final class EdgesOfHelpersTest {
         CHECK.due("its sleeper is awake", x.look(0, 0), 2);
         CHECK.due("that of another is not", x.look(1, 0), 1);
         CHECK.due("one that woke before is not woken", x.count(8), 1);
+        x.sleep(4, 0);
+        x.leave(0);
+        CHECK.due("the last host is awake", x.look(4, 0), 2);
+        CHECK.due("two woken", x.count(8), 2);
     }
 
     // 11: none asleep, and one whose sleeper is gone
@@ -298,10 +325,12 @@ final class EdgesOfHelpersTest {
         x.leave(2);
         CHECK.due("the proxy is awake", x.look(0, 3), 1);
         CHECK.due("and has none", x.look(1, 3), -1);
+        x.wake(0);
+        CHECK.due("awake, as the proxy is", x.look(0, 3), -1);
+        x.sleep(0, 1);
+        CHECK.due("asleep again", x.look(0, 3), 1);
         x.fall(1);
         CHECK.due("the proxy is gone", x.look(0, 3), -1);
-        x.wake(0);
-        CHECK.due("awake", x.look(0, 3), -1);
         x.fall(0);
         CHECK.due("gone", x.look(0, 3), -1);
     }
@@ -322,6 +351,10 @@ final class EdgesOfHelpersTest {
             }
             CHECK.due("of none asleep, way " + way, x.bridge(1, 1, 1), true);
         }
+        WhoIsThere x = Houses.ofRanks(5, 5, 5, 5);
+        x.sleep(3, 1);
+        CHECK.due("of the last one", x.bridge(1, 1, 1), false);
+        CHECK.due("another one is no proxy", x.bridge(0, 1, 1), true);
     }
 
     // 13: "has had SERVICES"
@@ -394,8 +427,40 @@ final class EdgesOfHelpersTest {
         CHECK.due("nor asleep", x.reach(2, 0), 0);
         CHECK.due("which does not wake it", x.look(0, 0), 1);
         CHECK.due("who heard reaches it", x.reach(1, 0), 2);
+    }
+
+    // 22: "HELD by that NAME": by that name, but not held
+    private static void notHeldByThatName() {
+        WhoIsThere x = Houses.ofRanks(5, 5);
+        x.lie(0, KIND, 4, 0, 200);
+        x.tick(1);
+        CHECK.due("held", x.reach(1, 0), 1);
         x.drop(0);
-        CHECK.due("gone", x.reach(2, 0), 0);
+        CHECK.due("gone", x.reach(1, 0), 0);
+        x = new WhoIsThere();
+        x.host(0, 4, 4, 1);
+        x.host(0, 1, 9, 9);
+        x.host(0, 1, 9, 5);
+        x.offer(0, KIND, 4, 0, 200);
+        x.tick(4);
+        x.deaf(2, 100);
+        x.lie(1, KIND, 4, 0, 200);
+        x.tick(1);
+        CHECK.due("it claims its only name anew", x.service(0, 2), 3);
+        CHECK.due("not held", x.reach(2, 0), 0);
+    }
+
+    // 22: "no such HOST awake": one that leaves is awake till the next tick.
+    private static void reachedByOneThatLeaves() {
+        WhoIsThere x = Houses.ofRanks(5, 5, 5);
+        x.lie(0, KIND, 1, 0, 200);
+        x.tick(1);
+        x.leave(1);
+        CHECK.due("it leaves", x.reach(1, 0), 1);
+        x.sleep(0, 2);
+        CHECK.due("and wakes a sleeper", x.reach(1, 0), 2);
+        x.tick(1);
+        CHECK.due("gone", x.reach(1, 0), -1);
     }
 
     // 22: "NONE: no such HOST awake, or RECORD"
@@ -577,21 +642,29 @@ final class EdgesOfHelpersTest {
         CHECK.due("held since 5, and known by then", x.look(0, 8) + x.look(1, 8), 0);
     }
 
+    /** Told at tick 0 with the life given and no more; keeper 1, that host 3 asked at 3, may tell it at 6. */
+    private static WhoIsThere keeperTellsAtSix(int life) {
+        WhoIsThere x = Houses.ofRanks(5, 5, 5, 5);
+        x.deaf(3, 1);
+        x.lie(0, KIND, 1, 9, life);
+        x.tick(1);
+        x.lose(0, 100);
+        x.keeper(1, true);
+        x.ask(3, KIND, 0);
+        x.tick(3);
+        CHECK.due("life " + life + ": an answer waits", x.look(1, 8), 1);
+        return x;
+    }
+
     // b. "life: LEFT less 1 (not at all if that is 0)"
     private static void leftLessOne() {
         for (int life : new int[] {6, 7, 8, 200}) {
-            WhoIsThere x = Houses.ofRanks(5, 5, 5, 5);
-            x.deaf(3, 1);
-            x.lie(0, KIND, 1, 9, life);
-            x.tick(1);
-            x.lose(0, 100);
-            x.keeper(1, true);
-            x.ask(3, KIND, 0);
-            x.tick(5);
-            CHECK.due("life " + life + ": an answer waits", x.look(1, 8), 1);
+            WhoIsThere x = keeperTellsAtSix(life);
+            x.tick(2);
+            CHECK.due("life " + life + ": it still waits", x.look(1, 8), 1);
             x.tick(1);
             CHECK.due("life " + life + ": gone", x.look(1, 8), 0);
-            // Told at 0, it ends at 1 and the life; the keeper tells at 6.
+            // It ends at 1 and the life, so at 6 that less 6 is left.
             int told = 1 + life - 6 - 1;
             CHECK.due("life " + life + ": a letter", x.look(1, 4), told > 0 ? 1 : 0);
             CHECK.due("life " + life + ": told", x.record(3, 0, 3), told > 0 ? told : -1);
@@ -607,6 +680,23 @@ final class EdgesOfHelpersTest {
         x.tick(1);
         CHECK.due("told by the keeper, at 3", x.record(ASKER, 0, 3), 197);
         CHECK.due("its renewal is as it was", x.service(0, 5), 100);
+    }
+
+    // b. "of RECORDS that it has with an ANSWER due": not of one that is gone by then, by a bye or at its end
+    private static void keepersWithoutARecordAnyMore() {
+        for (boolean bye : new boolean[] {false, true}) {
+            WhoIsThere x = keeperTellsAtSix(bye ? 200 : 4);
+            if (bye) {
+                x.lose(0, 0);
+                x.drop(0);
+            }
+            x.tick(2);
+            CHECK.due("no record is left", x.look(1, 5), 0);
+            CHECK.due("the answer still waits", x.look(1, 8), 1);
+            x.tick(1);
+            CHECK.due("gone", x.look(1, 8), 0);
+            CHECK.due("nothing was told", x.look(1, 4), 0);
+        }
     }
 
     // 23: "pairs of SERVICES that are HELD, neither of them FALSE, spoken for .. have one NAME"

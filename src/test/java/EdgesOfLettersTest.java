@@ -10,10 +10,12 @@ final class EdgesOfLettersTest {
         ifThereIsAnything();
         withAllItHasNow();
         claimsWithClaimsLeft();
+        noClaimOfTheTickBefore();
         byesOnce();
         allBeingWritten();
         lettersInTheLatestTick();
         whoLeavesWritesByesAlone();
+        whoLeavesWritesToItsHome();
         keepersWhoLeaveTellNothing();
         whoLeavesIsGoneThen();
         whoLeavesWithoutByes();
@@ -87,6 +89,19 @@ final class EdgesOfLettersTest {
         CHECK.due("no fifth", x.look(0, 4), 4);
     }
 
+    // b. "with all it has now": no claim that was written before
+    private static void noClaimOfTheTickBefore() {
+        WhoIsThere x = Houses.ofRanks(9, 5);
+        x.offer(0, KIND, 5, 0, 200);
+        x.tick(1);
+        x.drop(0);
+        x.offer(0, KIND, 7, 0, 200);
+        x.offer(1, KIND, 5, 0, 200);
+        x.tick(1);
+        CHECK.due("name 5 is claimed no longer by the stronger", x.service(2, 7), 0);
+        CHECK.due("name 7 is", x.service(1, 2), 2);
+    }
+
     // b. "BYES of its own"
     private static void byesOnce() {
         WhoIsThere x = Houses.ofRanks(5, 5);
@@ -155,6 +170,19 @@ final class EdgesOfLettersTest {
             CHECK.due("the bye is heard", x.look(1, 5), 0);
             CHECK.due("and was written", x.service(1, 6), 0);
             CHECK.due("the ask is heard of one that stays", x.look(1, 8), leaves ? 0 : 1);
+        }
+    }
+
+    // b. "writes one to its home NET", of one that leaves, too
+    private static void whoLeavesWritesToItsHome() {
+        for (int net = 0; net <= 3; net++) {
+            WhoIsThere x = Houses.ofNets(0, 1, 2, 3, net, net);
+            x.lie(4, KIND, 41, 0, 200);
+            x.tick(1);
+            CHECK.due("believed on net " + net, x.record(5, 0, 0), 41);
+            x.leave(4);
+            x.tick(1);
+            CHECK.due("its bye is heard on net " + net, x.look(5, 5) + x.look(net, 5), 0);
         }
     }
 

@@ -24,6 +24,7 @@ final class EdgesOfNamesTest {
         itsOldOneIfThereIsNoneOther();
         claimingWithThreeClaimsLeft();
         aByeIfItWasHeld();
+        aByeStaysIfItYieldsAgain();
         heldAtOnceByWhateverName();
         neverYields();
         whatAClaimDoes();
@@ -32,6 +33,8 @@ final class EdgesOfNamesTest {
         noneOfTheNamesOfItsHost();
         aLieAndNoMore();
         theRecordOfThatName();
+        theRecordOfALaterService();
+        noRecordAnyMore();
         whatIsLeftOutLeavesTheOlderRecord();
         oneRecordForEachService();
         CHECK.end("EdgesOfNamesTest");
@@ -180,12 +183,18 @@ final class EdgesOfNamesTest {
         CHECK.due("the one before it is left", nextName(5, 8, 6, 7, 8, 5), 6);
     }
 
-    // "that no other SERVICE of the HOST that is not gone has": such as only claim have names, too.
-    private static void namesOfClaimingOnesAreHad() {
+    /** A weak host and a strong one, that hears nothing, with the names 5 to 8. */
+    private static WhoIsThere weakAndStrong() {
         WhoIsThere x = new WhoIsThere();
         x.host(0, 5, 8, 1);
         x.host(0, 5, 8, 9);
         x.deaf(1, 100);
+        return x;
+    }
+
+    // "that no other SERVICE of the HOST that is not gone has": such as only claim have names, too.
+    private static void namesOfClaimingOnesAreHad() {
+        WhoIsThere x = weakAndStrong();
         x.offer(0, KIND, 5, 0, 20);
         x.offer(0, KIND, 6, 0, 20);
         x.offer(1, KIND, 5, 0, 20);
@@ -195,10 +204,7 @@ final class EdgesOfNamesTest {
 
     // "that is not gone"
     private static void namesOfGoneOnesAreFree() {
-        WhoIsThere x = new WhoIsThere();
-        x.host(0, 5, 8, 1);
-        x.host(0, 5, 8, 9);
-        x.deaf(1, 100);
+        WhoIsThere x = weakAndStrong();
         x.offer(0, KIND, 5, 0, 20);
         x.lie(0, KIND, 6, 0, 20);
         x.drop(1);
@@ -211,10 +217,7 @@ final class EdgesOfNamesTest {
 
     // "no other SERVICE of the HOST"
     private static void namesOfOtherHostsAreFree() {
-        WhoIsThere x = new WhoIsThere();
-        x.host(0, 5, 8, 1);
-        x.host(0, 5, 8, 9);
-        x.deaf(1, 100);
+        WhoIsThere x = weakAndStrong();
         x.offer(0, KIND, 8, 0, 20);
         x.offer(1, KIND, 5, 0, 20);
         x.offer(1, KIND, 8, 0, 20);
@@ -268,6 +271,20 @@ final class EdgesOfNamesTest {
         CHECK.due("no renewal", x.service(0, 5), -1);
         x.tick(1);
         CHECK.due("written", x.service(0, 6), 0);
+    }
+
+    // "if it was HELD, it has a BYE": which stays if it yields again before it is written
+    private static void aByeStaysIfItYieldsAgain() {
+        WhoIsThere x = Houses.ofRanks(1, 9);
+        x.offer(0, KIND, 4, 0, 20);
+        x.tick(4);
+        x.lie(1, KIND, 4, 0, 20);
+        x.lie(1, KIND, 5, 0, 20);
+        x.tick(1);
+        CHECK.due("twice in one tick", x.service(0, 7), 2);
+        CHECK.due("its name", x.service(0, 1), 6);
+        CHECK.due("a bye", x.service(0, 6), 1);
+        CHECK.due("two yields", x.count(5), 2);
     }
 
     // "A FALSE one is HELD at once by whatever NAME"
@@ -412,6 +429,31 @@ final class EdgesOfNamesTest {
             CHECK.due(ranks + ": one record", x.look(2, 5), 1);
             CHECK.due(ranks + ": left out", x.count(7), 1 - stays);
         }
+    }
+
+    // "a RECORD of that NAME of another SERVICE": of a greater number as of a lesser one
+    private static void theRecordOfALaterService() {
+        WhoIsThere x = Houses.ofRanks(9, 5, 5);
+        x.lie(1, KIND, 4, 0, 20);
+        x.lie(0, KIND, 4, 0, 20);
+        x.tick(1);
+        CHECK.due("host 0 told first of service 1, the stronger", x.record(2, 1, 0), 4);
+        CHECK.due("service 0 was left out", x.count(7), 1);
+        CHECK.due("one record", x.look(2, 5), 1);
+    }
+
+    // "if it has a RECORD": not one that is gone by a bye
+    private static void noRecordAnyMore() {
+        WhoIsThere x = Houses.ofRanks(9, 5, 5);
+        x.lie(0, KIND, 4, 0, 200);
+        x.tick(1);
+        x.drop(0);
+        x.tick(1);
+        CHECK.due("gone", x.look(2, 5), 0);
+        x.lie(1, KIND, 4, 0, 200);
+        x.tick(1);
+        CHECK.due("the weaker is believed", x.record(2, 1, 0), 4);
+        CHECK.due("none left out", x.count(7), 0);
     }
 
     // "the TELLING is LEFT OUT": what was believed of s before is believed on.

@@ -21,6 +21,8 @@ final class EdgesOfWaitingTest {
         oneAskOfAKind();
         asksOfTheSameMarks();
         whatIsKnownThere();
+        whatIsKnownOfTheKind();
+        whatIsKnownNoLonger();
         dueOrAhead();
         renewalsThatAreLongDue();
         answersThatAreLongDue();
@@ -31,6 +33,7 @@ final class EdgesOfWaitingTest {
         anAnswerPutsOffTheRenewal();
         changesRenewWhatIsHeld();
         answersWithNothingToTell();
+        answersForWhatIsHeldNoLonger();
         silentAtHalfTheLife();
         recordsEndWithTheirLife();
         recordsEndUnlessToldAnew();
@@ -113,15 +116,21 @@ final class EdgesOfWaitingTest {
         }
     }
 
-    // "An ANSWER comes to be due at d: if none is due, or one later than d, it is due at d"
-    private static void anEarlierAnswerTakesThePlaceOfALater() {
-        WhoIsThere x = Houses.ofRanks(5, 5, 5);
+    /** Host 0, the weakest, holds a name since tick 3; host 1, that did not hear so, has asked at 5. */
+    private static WhoIsThere answerDueAtNine() {
+        WhoIsThere x = Houses.ofRanks(1, 5, 9);
         x.offer(0, KIND, 1, 0, 200);
         x.deaf(1, 4);
         x.tick(4);
         x.ask(1, KIND, 0);
         x.tick(2);
         CHECK.due("asked at 5, due at 9", x.look(0, 8), 1);
+        return x;
+    }
+
+    // "An ANSWER comes to be due at d: if none is due, or one later than d, it is due at d"
+    private static void anEarlierAnswerTakesThePlaceOfALater() {
+        WhoIsThere x = answerDueAtNine();
         x.offer(2, KIND, 1, 0, 200);
         x.tick(1);
         x.drop(1);
@@ -224,6 +233,32 @@ final class EdgesOfWaitingTest {
         CHECK.due("a record there that is too old to be known", asksLeftWhereKnown(true, false, 6), 0);
     }
 
+    // b. "what is KNOWN: SERVICES of that KIND"
+    private static void whatIsKnownOfTheKind() {
+        WhoIsThere x = Houses.ofRanks(5, 5, 5);
+        x.deaf(1, 1);
+        x.lie(2, KIND + 1, 1, 0, 200);
+        x.tick(4);
+        x.ask(0, KIND, 0);
+        x.ask(1, KIND, 0);
+        x.tick(1);
+        CHECK.due("what is known of another kind is not known there", x.look(1, 7), 0);
+    }
+
+    // b. "of which it has a RECORD": not one that is gone by a bye
+    private static void whatIsKnownNoLonger() {
+        WhoIsThere x = Houses.ofRanks(5, 5, 5);
+        x.deaf(1, 1);
+        x.lie(2, KIND, 1, 0, 200);
+        x.tick(1);
+        x.drop(0);
+        x.tick(3);
+        x.ask(0, KIND, 0);
+        x.ask(1, KIND, 0);
+        x.tick(1);
+        CHECK.due("nothing is known there any more", x.look(1, 7), 0);
+    }
+
     // b. "ASKS that are due (t or ahead)": a sleeper's ask that was due while it slept
     private static void dueOrAhead() {
         WhoIsThere x = Houses.ofRanks(5, 5);
@@ -256,12 +291,7 @@ final class EdgesOfWaitingTest {
 
     // b. "or an ANSWER that it has for it, is due": of a sleeper, long ahead
     private static void answersThatAreLongDue() {
-        WhoIsThere x = Houses.ofRanks(5, 5);
-        x.offer(0, KIND, 1, 0, 200);
-        x.deaf(1, 4);
-        x.tick(4);
-        x.ask(1, KIND, 0);
-        x.tick(2);
+        WhoIsThere x = answerDueAtNine();
         x.sleep(0, 1);
         x.tick(8);
         CHECK.due("it stays", x.look(0, 8), 1);
@@ -393,12 +423,7 @@ final class EdgesOfWaitingTest {
 
     // b. "ANSWERS that are due and ASKS that were written are gone then (also what a HOST has nothing to tell of)"
     private static void answersWithNothingToTell() {
-        WhoIsThere x = Houses.ofRanks(5, 5);
-        x.offer(0, KIND, 1, 0, 200);
-        x.deaf(1, 4);
-        x.tick(4);
-        x.ask(1, KIND, 0);
-        x.tick(2);
+        WhoIsThere x = answerDueAtNine();
         x.drop(0);
         x.tick(3);
         CHECK.due("due at 9", x.look(0, 8), 1);
@@ -406,6 +431,19 @@ final class EdgesOfWaitingTest {
         x.tick(1);
         CHECK.due("gone", x.look(0, 8), 0);
         CHECK.due("without a letter", x.look(0, 4), letters);
+    }
+
+    // b. "of what it speaks for that is HELD": not if it has yielded since
+    private static void answersForWhatIsHeldNoLonger() {
+        WhoIsThere x = answerDueAtNine();
+        x.lie(2, KIND, 1, 0, 200);
+        x.tick(3);
+        CHECK.due("it yielded at 6", x.service(0, 7), 1);
+        CHECK.due("the answer stays", x.look(0, 8), 1);
+        x.tick(1);
+        CHECK.due("it still claims at 9", x.service(0, 0), CLAIMING);
+        CHECK.due("the answer is gone", x.look(0, 8), 0);
+        CHECK.due("it was not told", x.record(1, 0, 0), -1);
     }
 
     // d. "An ANSWER that it has for s is gone, if twice the life told is not below the LIFE of s"

@@ -13,9 +13,11 @@ final class FullTest {
         twelveHosts();
         goneHostsAreThere();
         thirtyTwoServices();
+        thirtyTwoClaims();
         goneServicesToo();
         fourThatAreNotGone();
         fourThatAreGone();
+        theEndsAreToldAsTheyAre();
         aFullStore();
         foundByName();
         anAskOfEachKind();
@@ -107,6 +109,26 @@ final class FullTest {
         CHECK.due("the last may not be dropped twice", x.drop(31), false);
     }
 
+    // b. "CLAIMS: of its own CLAIMING SERVICES": 32 at once are claimed, held and told.
+    private static void thirtyTwoClaims() {
+        WhoIsThere x = Houses.ofNets(new int[12]);
+        for (int s = 0; s < 32; s++) {
+            CHECK.due("service " + s, x.offer(s / 4, 15, 10 * (s / 4) + 1 + s % 4, 0, 200), s);
+        }
+        for (int left = 2; left >= 0; left--) {
+            x.tick(1);
+            CHECK.due("eight letters", x.count(9), 8);
+            CHECK.due("claims of the first", x.service(0, 2), left);
+            CHECK.due("claims of the last", x.service(31, 2), left);
+        }
+        x.tick(1);
+        for (int s = 0; s < 32; s++) {
+            CHECK.due("held: " + s, x.service(s, 0), 2);
+        }
+        CHECK.due("none yielded", x.count(5), 0);
+        CHECK.due("all were told", x.look(11, 5), 32);
+    }
+
     // WHO: "at most 32 (gone ones too)"
     private static void goneServicesToo() {
         WhoIsThere x = Houses.ofNets(0, 0);
@@ -146,6 +168,26 @@ final class FullTest {
             x.drop(s);
             CHECK.due("in the place of a gone one", x.offer(0, KIND, 1 + s, 0, 4), 4 + s);
             CHECK.due("but no more", x.offer(0, KIND, 9, 0, 4), -1);
+        }
+    }
+
+    // WHO: "a KIND (0 to 15), a NAME, MARKS (0 to 255, bits), a LIFE (4 to 200)": the ends are believed as told.
+    private static void theEndsAreToldAsTheyAre() {
+        int[] least = {0, 1, 0, 4};
+        int[] most = {15, 250, 255, 200};
+        for (int[] end : new int[][] {least, most}) {
+            WhoIsThere x = new WhoIsThere();
+            x.host(3, end[1], end[1], 1000);
+            x.host(3, 1, 250, 0);
+            CHECK.due("offered", x.offer(0, end[0], end[1], end[2], end[3]), 0);
+            x.tick(4);
+            CHECK.due("name", x.record(1, 0, 0), end[1]);
+            CHECK.due("marks", x.record(1, 0, 1), end[2]);
+            CHECK.due("left", x.record(1, 0, 2), end[3]);
+            CHECK.due("life", x.record(1, 0, 3), end[3]);
+            CHECK.due("found by kind and marks", x.find(1, end[0], end[2], 0), 0);
+            CHECK.due("not by another kind", x.find(1, 15 - end[0], end[2], 0), -1);
+            CHECK.due("by all marks, or not", x.find(1, end[0], 255, 0), end[2] == 255 ? 0 : -1);
         }
     }
 

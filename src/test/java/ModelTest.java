@@ -5,7 +5,8 @@ import java.util.Random;
  * all that can be seen of both must be the same.
  */
 final class ModelTest {
-    private static final int RUNS = 600;
+    private static final int RUNS = 800;
+    private static final int EDGY_FROM = 600;
     private static final int CALLS = 400;
 
     private final Random random;
@@ -15,6 +16,7 @@ final class ModelTest {
     private final int names;
     private final int longest;
     private final boolean quiet;
+    private final boolean edgy;
     private String call = "";
     private static long compared;
     private static final long[] SEEN = new long[11];
@@ -27,6 +29,7 @@ final class ModelTest {
         names = 2 + random.nextInt(random.nextBoolean() ? 4 : 30);
         longest = random.nextBoolean() ? 12 : 60;
         quiet = random.nextInt(3) == 0;
+        edgy = seed >= EDGY_FROM;
     }
 
     public static void main(String[] args) {
@@ -69,11 +72,14 @@ final class ModelTest {
         return random.nextInt(most + 1);
     }
 
-    /** Mostly a number from least to most, at times one just outside, rarely one far off. */
+    /** Mostly a number from least to most, in edgy runs often an end, at times one just outside, rarely far off. */
     private int near(int least, int most) {
         int dice = random.nextInt(200);
         if (dice == 0) {
             return random.nextInt();
+        }
+        if (edgy && dice >= 120) {
+            return dice < 160 ? least : most;
         }
         return dice < 4 ? least - 1 : dice < 7 ? most + 1 : least + upTo(most - least);
     }

@@ -23,7 +23,6 @@ final class TicksTest {
         weakerHolderYields();
         strengthOfOneRank();
         namesGoRoundAbout();
-        noOtherNameIsLeft();
         falseOnesNeverYield();
         proxiesTellAndDefend();
         proxiesYieldAndWake();
@@ -33,7 +32,6 @@ final class TicksTest {
         lettersAreHeardInOrder();
         deafToWhatTheyWouldHear();
         keepersAnswerAlone();
-        keepersTellWhatIsLeft();
         keepersNoMoreTellNothing();
         CHECK.end("TicksTest");
     }
@@ -279,25 +277,6 @@ final class TicksTest {
         CHECK.due("2: the next", x.service(0, 1), 7);
     }
 
-    private static void noOtherNameIsLeft() {
-        WhoIsThere x = new WhoIsThere();
-        x.host(0, 5, 6, 5);
-        x.host(0, 7, 7, 5);
-        x.host(0, 5, 7, 9);
-        x.deaf(2, 100);
-        x.offer(0, 3, 5, 0, 40);
-        x.offer(0, 3, 6, 0, 40);
-        x.offer(1, 3, 7, 0, 40);
-        x.tick(1);
-        x.offer(2, 3, 5, 0, 40);
-        x.offer(2, 3, 7, 0, 40);
-        x.tick(1);
-        CHECK.due("2: the other name is had", x.service(0, 1), 5);
-        CHECK.due("2: it yielded all the same", x.service(0, 7), 1);
-        CHECK.due("2: one name alone", x.service(2, 1), 7);
-        CHECK.due("2: and three claims", x.service(2, 2), 3);
-    }
-
     private static void falseOnesNeverYield() {
         WhoIsThere x = Houses.ofRanks(5, 900);
         x.lie(0, 3, 1, 0, 40);
@@ -484,28 +463,6 @@ final class TicksTest {
         x.ask(1, 5, 0);
         x.tick(3);
         CHECK.due("d: of the only keeper's ask each for its own", x.look(0, 8), 1);
-    }
-
-    private static void keepersTellWhatIsLeft() {
-        CHECK.due("b: one of two left is told", lifeToldByKeeper(7), 1);
-        CHECK.due("b: none of one left", lifeToldByKeeper(6), -1);
-    }
-
-    /** Told at tick 0; the keeper, host 1, hears an ask at tick 3 and may tell at tick 6. */
-    private static int lifeToldByKeeper(int life) {
-        WhoIsThere x = Houses.ofRanks(5, 5, 5, 5);
-        x.deaf(3, 1);
-        x.lie(0, 3, 1, 0, life);
-        x.tick(1);
-        x.lose(0, 100);
-        x.keeper(1, true);
-        x.ask(3, 3, 0);
-        x.tick(3);
-        CHECK.due("d: the keeper has an answer", x.look(1, 8), 1);
-        x.tick(3);
-        CHECK.due("b: it is gone", x.look(1, 8), 0);
-        CHECK.due("b: a letter if there was anything", x.look(1, 4), life == 7 ? 1 : 0);
-        return x.record(3, 0, 3);
     }
 
     private static void keepersNoMoreTellNothing() {
