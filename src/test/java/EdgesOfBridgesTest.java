@@ -21,6 +21,7 @@ final class EdgesOfBridgesTest {
         theFirstAskInATick();
         theFirstAskOfEachWay();
         theClaimHeardLast();
+        allClaimsHeardLast();
         theTellingHeardLast();
         eachByItself();
         aLifeOneLess();
@@ -322,6 +323,58 @@ final class EdgesOfBridgesTest {
         CHECK.due("till the next claim is carried, at 8", x.look(5, 8), 1);
         x.tick(1);
         CHECK.due("which is of the other", x.service(1, 5), 109);
+    }
+
+    /**
+     * Hosts 1 to 8 on net 0 offer 32 services, two hosts each by the same four names; the weaker host of two, an
+     * even one, yields all four at tick 0 and claims other names at tick 1. By one bridge the claims of tick 1
+     * come to net 1 at tick 2; by two others, over net 3, those of tick 0. Bridge 10 hears both and carries one
+     * of each service to net 2 at tick 3, as net 0 has joined it.
+     */
+    private static WhoIsThere twoClaimsOfEachService(boolean olderIsLast) {
+        WhoIsThere x = new WhoIsThere();
+        x.host(olderIsLast ? 0 : 3, 250, 250, 5);
+        for (int h = 1; h <= 8; h++) {
+            int first = 10 * ((h + 1) / 2);
+            x.host(0, first, first + 7, h % 2 == 1 ? 9 : 5);
+            for (int i = 0; i < 4; i++) {
+                x.offer(h, i, first + i, 0, 200);
+            }
+        }
+        x.host(0, 250, 250, 5);
+        x.host(1, 250, 250, 5);
+        x.host(olderIsLast ? 3 : 0, 250, 250, 5);
+        x.bridge(0, 1, ALL);
+        x.bridge(9, 3, ALL);
+        x.bridge(10, 2, ALL);
+        x.bridge(11, 1, ALL);
+        return x;
+    }
+
+    // The same, of all SERVICES at once: "SERVICES, at most 32"
+    private static void allClaimsHeardLast() {
+        for (int last = 0; last <= 1; last++) {
+            WhoIsThere x = twoClaimsOfEachService(last == 1);
+            String way = last == 1 ? "older ones last: " : "newer ones last: ";
+            x.tick(1);
+            CHECK.due(way + "half of all yielded", x.count(5), 16);
+            CHECK.due(way + "by two bridges on net 0", x.count(10), 64);
+            x.tick(1);
+            CHECK.due(way + "by these, by two on net 1, by one on net 3", x.count(10), 224);
+            x.tick(1);
+            x.join(2, 0);
+            x.tick(1);
+            for (int h = 1; h <= 8; h++) {
+                boolean isAskedToDefend = last == 1 && h % 2 == 1;
+                CHECK.due(way + "names claimed of host " + h, x.look(h, 8), isAskedToDefend ? 4 : 0);
+            }
+            x.tick(1);
+            for (int s = 0; s < 32; s++) {
+                int told = last == 1 || s / 4 % 2 == 1 ? 4 : 3;
+                CHECK.due(way + "renewal of " + s, x.service(s, 5), told + 100);
+            }
+            CHECK.due(way + "none yields any more", x.count(5), 16);
+        }
     }
 
     /** A keeper's telling and the owner's are heard in one tick; the order is that of the hosts. */

@@ -7,7 +7,9 @@ import java.lang.reflect.Modifier;
 import java.nio.file.Files;
 import java.nio.file.Path;
 import java.util.List;
+import java.util.Map;
 import java.util.Set;
+import java.util.TreeMap;
 import java.util.TreeSet;
 import java.util.regex.Matcher;
 import java.util.regex.Pattern;
@@ -16,6 +18,7 @@ import java.util.regex.Pattern;
 final class FormTest {
     private static final Check CHECK = new Check();
     private static final Path SOURCE = Path.of("src/main/java/WhoIsThere.java");
+    private static final Pattern METHOD_HEAD = Pattern.compile("(?: {4}| {8})[a-zA-Z][^=;]*?\\b(\\w+)\\([^()]*\\) \\{");
     private static final List<String> FACE = List.of(
             "int host(int,int,int,int)", "int offer(int,int,int,int,int)", "int lie(int,int,int,int,int)",
             "boolean drop(int)", "boolean change(int,int)", "boolean ask(int,int,int)",
@@ -118,7 +121,74 @@ final class FormTest {
         }
         holds("no while: each loop counts", !Pattern.compile("\\b(while|do)\\b").matcher(code).find());
         holds("characters 0 to 255", text.chars().allMatch(c -> c < 256));
+        theLibrary(code);
+        loopsCount(code);
+        divisorsAreConstants(code);
+        callsAreNotDeep(code);
         methodsAreShort(text.split("\n"));
+    }
+
+    /** Rules 3, 4 and 6: nothing of the library but a function of Integer, no casts, rows of one dimension. */
+    private static void theLibrary(String code) {
+        for (String used : found(code, "\\b([A-Z]\\w*\\.\\w+)")) {
+            holds("of the library: " + used, used.equals("Integer.bitCount"));
+        }
+        for (String made : found(code, "\\bnew (\\w+)")) {
+            holds("made: " + made, made.equals("int") || code.contains("class " + made + " {"));
+        }
+        holds("no casts", found(code, "\\((int|[A-Z]\\w*)\\) *[\\w(]").isEmpty());
+        holds("rows of one dimension", !code.contains("[][]"));
+    }
+
+    /** Rule 9: a loop's end can be seen from its own line. */
+    private static void loopsCount(String code) {
+        List<String> loops = found(code, "\\b(for \\(.*)");
+        holds("there are loops", !loops.isEmpty());
+        for (String loop : loops) {
+            holds(loop, loop.matches("for \\(int (\\w+) = .*; \\1 < .*; \\1\\+\\+\\) \\{"));
+        }
+    }
+
+    /** Rule 7: a divisor that is a constant need not be looked at. */
+    private static void divisorsAreConstants(String code) {
+        for (String divisor : found(code, "[/%]=? *([^ ;]+)")) {
+            holds("divisor " + divisor, divisor.equals("2") || divisor.equals("LOTS"));
+        }
+    }
+
+    private static List<String> found(String code, String pattern) {
+        return Pattern.compile(pattern).matcher(code).results().map(one -> one.group(1)).toList();
+    }
+
+    /** Rules 8 and 11: no recursion, and calls at most eight deep; methods of one name are taken together. */
+    private static void callsAreNotDeep(String code) {
+        Map<String, Set<String>> called = new TreeMap<>();
+        String current = "";
+        for (String line : code.split("\n")) {
+            Matcher head = METHOD_HEAD.matcher(line);
+            if (head.matches()) {
+                current = head.group(1);
+                called.putIfAbsent(current, new TreeSet<>());
+            } else if (called.containsKey(current)) {
+                called.get(current).addAll(found(line, "\\b(\\w+)\\("));
+            }
+        }
+        holds("methods were found", called.containsKey("tick") && called.containsKey("isIn"));
+        for (String method : called.keySet()) {
+            int depth = depthOf(method, called, 0);
+            holds(method + " calls " + depth + " deep", depth <= 8);
+        }
+    }
+
+    private static int depthOf(String method, Map<String, Set<String>> called, int open) {
+        int deepest = 0;
+        // A method that calls itself would go on for ever: far beyond what is allowed the count ends.
+        if (open < 20) {
+            for (String next : called.get(method)) {
+                deepest = Math.max(deepest, called.containsKey(next) ? depthOf(next, called, open + 1) : 0);
+            }
+        }
+        return deepest + 1;
     }
 
     private static void methodsAreShort(String[] lines) {

@@ -25,6 +25,8 @@ final class FullTest {
         aKeeperOfAll();
         twelveOfOneName();
         aBridgeFullOfLetters();
+        aBridgeFullOfClaims();
+        aBridgeFullOfTellingsAndByes();
         ticksAtOnceOrOneByOne();
         theLastTick();
         fiveHundredAndTwelveCalls();
@@ -312,6 +314,73 @@ final class FullTest {
         CHECK.due("and 16 asks", x.count(10), 96);
         x.tick(1);
         CHECK.due("one letter for each", x.look(8, 4) + x.look(9, 4), 4);
+    }
+
+    /**
+     * Hosts 2 to 9 are on net 0, and two by two they claim the same four names, 32 in all, deaf to one another.
+     * Their claims go by bridge 0 to net 1 and from there, two ticks old, by bridge 1 to net 2.
+     */
+    private static WhoIsThere thirtyTwoClaimsOnTheirWay() {
+        WhoIsThere x = new WhoIsThere();
+        x.host(0, 250, 250, 5);
+        x.host(1, 250, 250, 5);
+        x.bridge(0, 1, ALL);
+        x.bridge(1, 2, ALL);
+        for (int h = 2; h < 10; h++) {
+            int first = 10 * (h / 2) + 1;
+            x.host(0, first, first + 3, 5);
+            x.deaf(h, 100);
+            for (int i = 0; i < 4; i++) {
+                x.offer(h, i, first + i, 0, 200);
+            }
+        }
+        return x;
+    }
+
+    // WHO: "SERVICES, at most 32"; d. "it carries them there": CLAIMS of all of them in one LETTER
+    private static void aBridgeFullOfClaims() {
+        WhoIsThere x = thirtyTwoClaimsOnTheirWay();
+        x.tick(3);
+        CHECK.due("32 by one bridge at 0, by both at 1 and 2", x.count(10), 160);
+        CHECK.due("a letter of the second bridge", x.look(1, 4), 1);
+        // The claims of tick 2 do not bear net 2: their hosts are there as those come.
+        x.join(2, 0);
+        x.tick(1);
+        for (int h = 2; h < 10; h++) {
+            CHECK.due("deaf till now: host " + h, x.look(h, 8), 0);
+            x.deaf(h, 0);
+        }
+        x.tick(1);
+        CHECK.due("claims to net 2, tellings of both bridges to net 1", x.count(9), 3);
+        for (int h = 2; h < 10; h++) {
+            CHECK.due("each of the four names was claimed: host " + h, x.look(h, 8), 4);
+            // What is told next would make half of them yield.
+            x.deaf(h, 100);
+        }
+        x.tick(1);
+        for (int s = 0; s < 32; s++) {
+            CHECK.due("each one is defended: " + s, x.service(s, 5), 105);
+        }
+        CHECK.due("none yielded", x.count(5), 0);
+    }
+
+    // The same: TELLINGS, and BYES, of all of them in one LETTER
+    private static void aBridgeFullOfTellingsAndByes() {
+        WhoIsThere x = Houses.fullOn(0, 0, 0, 0, 0, 0, 0, 0, 0, 1);
+        x.bridge(8, 1, ALL);
+        x.tick(2);
+        CHECK.due("32 tellings", x.count(10), 32);
+        CHECK.due("in one letter", x.count(9), 1);
+        for (int s = 0; s < 32; s++) {
+            CHECK.due("heard: " + s, x.record(9, s, 3), 39);
+            CHECK.due("dropped: " + s, x.drop(s), true);
+        }
+        x.tick(1);
+        CHECK.due("32 byes", x.count(10), 64);
+        CHECK.due("not there yet", x.look(9, 5), 32);
+        x.tick(1);
+        CHECK.due("in one letter", x.count(9), 1);
+        CHECK.due("all are heard", x.look(9, 5), 0);
     }
 
     // 17: "n TICKS go by"

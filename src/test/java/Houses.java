@@ -25,7 +25,12 @@ final class Houses {
 
     /** Twelve hosts on net 0; of the first eight each has four false services, held: 32 in all. */
     static WhoIsThere full() {
-        WhoIsThere x = ofNets(new int[12]);
+        return fullOn(new int[12]);
+    }
+
+    /** Eight hosts or more on the nets given, the first eight with 32 services as in a full house. */
+    static WhoIsThere fullOn(int... nets) {
+        WhoIsThere x = ofNets(nets);
         for (int s = 0; s < 32; s++) {
             // The names fall as the numbers rise, so that their order is not that of the services.
             x.lie(s / 4, 3, 10 * (s / 4) + 4 - s % 4, 255, 40);
